@@ -373,14 +373,17 @@ public final class CrateHelpers {
         if (underWay != NONE) {
             return STATE;
         }
-        solveAside(problem, 1, alone);
-        solveAside(problem, helpers, together);
-        boolean isSame = true;
-        for (int i = 0; i < OUTCOME; i++) {
-            boolean hangsOnHelpers = i == 2 || i == 3;
-            isSame = isSame && (hangsOnHelpers || alone[i] == together[i]);
+        // Between solvings the tree of the next one is free: what is solved in it here is told of nowhere.
+        for (int round = 0; round < 2; round++) {
+            likeTeam.become(round == 0 ? 1 : helpers);
+            int result = solving.begin(problems[problem], likeTeam, nodeLimit);
+            // Without a schedule and failures each round of turns brings the walk on: the bound is never met.
+            for (int i = 0; i < 1000000 && result == STOPPED; i++) {
+                result = solving.takeTurn();
+            }
+            solving.sumUp(result, round == 0 ? alone : together);
         }
-        return asNumber(isSame);
+        return asNumber(isSameOutcome());
     }
 
     // ---- what is told
@@ -471,15 +474,13 @@ public final class CrateHelpers {
         underWay = NONE;
     }
 
-    /** A solving that nothing is told of: between solvings the tree of the next one is free for it. */
-    private void solveAside(int problem, int helpers, int[] outcome) {
-        likeTeam.become(helpers);
-        int result = solving.begin(problems[problem], likeTeam, nodeLimit);
-        // Without a schedule and failures each round of turns brings the walk on: the bound is never met.
-        for (int i = 0; i < 1000000 && result == STOPPED; i++) {
-            result = solving.takeTurn();
+    private boolean isSameOutcome() {
+        boolean isSame = true;
+        for (int i = 0; i < OUTCOME; i++) {
+            boolean hangsOnHelpers = i == 2 || i == 3;
+            isSame = isSame && (hangsOnHelpers || alone[i] == together[i]);
         }
-        solving.sumUp(result, outcome);
+        return isSame;
     }
 
     /** A rule over some variables; those that are not set have the value UNSET. */
@@ -819,12 +820,12 @@ public final class CrateHelpers {
             done = 0;
             taken = 0;
             Arrays.fill(values, UNSET);
-            add(0, 0);
+            judge.look(problem, values, 0, mindsTwins);
+            addJudged(0, 0);
             isReached[0] = true;
         }
 
-        private void add(int deep, long row) {
-            judge.look(problem, values, deep, mindsTwins);
+        private void addJudged(int deep, long row) {
             place[known] = ((long) judge.bound << ROW_BITS) | row;
             depth[known] = (byte) deep;
             what[known] = (byte) judge.what;
@@ -850,7 +851,8 @@ public final class CrateHelpers {
             firstBelow[id] = (short) known;
             for (int value = 0; value < problem.sizes[next] && known < place.length; value++) {
                 values[next] = value;
-                add(next + 1, row | (long) (value + 1) << shiftOf(next));
+                judge.look(problem, values, next + 1, mindsTwins);
+                addJudged(next + 1, row | (long) (value + 1) << shiftOf(next));
             }
         }
 
@@ -963,7 +965,6 @@ public final class CrateHelpers {
         private int turns = 0;
         private final int[] holds = new int[MOST_HELPERS];
         private final int[] had = new int[MOST_HELPERS];
-        private final int[] failAt = new int[MOST_HELPERS];
 
         Solving(Problem any, Team anyTeam) {
             tree = new Tree(any, MOST_DONE);
@@ -977,7 +978,6 @@ public final class CrateHelpers {
             Arrays.fill(team.done, 0);
             Arrays.fill(holds, NO_NODE);
             Arrays.fill(had, 0);
-            System.arraycopy(team.failAt, 0, failAt, 0, MOST_HELPERS);
             tree.plant(p, true);
             return tree.what[0] == OPEN ? STOPPED : NOTHING;
         }
@@ -987,7 +987,8 @@ public final class CrateHelpers {
             turns++;
             if (holds[helper] == NO_NODE) {
                 pick(helper);
-            } else if (had[helper] == failAt[helper]) {
+            } else if (had[helper] == team.failAt[helper]) {
+                // What a number has had only grows: the one that comes in its place does not fail again.
                 replace(helper);
             } else {
                 tree.finish(holds[helper], helper);
@@ -1012,7 +1013,6 @@ public final class CrateHelpers {
         private void replace(int helper) {
             tree.stage[holds[helper]] = FREE;
             holds[helper] = NO_NODE;
-            failAt[helper] = 0;
             team.replaced[helper]++;
         }
 

@@ -172,6 +172,14 @@ public final class QuestionsTest {
         }
         CHECK.due("250 were taken", x.second(1, 0), -1000001);
         row(x);
+        x.problem();
+        x.rule(2, 4, 0);
+        int[] sizes = {3, 5, 6, 6, 4, 3};
+        for (int v = 0; v < 6; v++) {
+            x.variable(2, sizes[v], 3);
+            x.part(2, 0, v, 1);
+        }
+        CHECK.due("just 250 are there", x.second(2, 60), -1000000);
     }
 
     private static void same() {
