@@ -14,22 +14,8 @@ public final class HelpersTest {
         CHECK.end();
     }
 
-    /** Two variables of two values that are not to be alike: that of none, [1] and [1, 0] are walked. */
-    static CrateHelpers pair() {
-        CrateHelpers x = new CrateHelpers();
-        x.problem();
-        x.variable(0, 2, 3);
-        x.variable(0, 2, 3);
-        x.cost(0, 0, 1, 1);
-        x.cost(0, 1, 1, 5);
-        x.rule(0, 4, 0);
-        x.part(0, 0, 0, 1);
-        x.part(0, 0, 1, 1);
-        return x;
-    }
-
     private static void helpers() {
-        CrateHelpers x = pair();
+        CrateHelpers x = Samples.pair();
         CHECK.due("helpers(5)", x.helpers(5), 1);
         CHECK.due("helpers(2)", x.helpers(2), 5);
         CHECK.due("helpers(0)", x.helpers(0), BAD);
@@ -49,7 +35,7 @@ public final class HelpersTest {
     }
 
     private static void failures() {
-        CrateHelpers x = pair();
+        CrateHelpers x = Samples.pair();
         CHECK.due("fail(1, 1) of one that is not", x.fail(1, 1), BAD);
         CHECK.due("fail(-1, 1)", x.fail(-1, 1), BAD);
         CHECK.due("fail(0, -1)", x.fail(0, -1), BAD);
@@ -75,7 +61,7 @@ public final class HelpersTest {
     }
 
     private static void schedule() {
-        CrateHelpers x = pair();
+        CrateHelpers x = Samples.pair();
         x.helpers(2);
         CHECK.due("turn(-1)", x.turn(-1), BAD);
         CHECK.due("turn(5)", x.turn(5), BAD);
@@ -108,7 +94,7 @@ public final class HelpersTest {
     }
 
     private static void scheduleOfHelpersThatAreNot() {
-        CrateHelpers x = pair();
+        CrateHelpers x = Samples.pair();
         for (int i = 0; i < 6; i++) {
             x.turn(4);
         }
@@ -123,7 +109,7 @@ public final class HelpersTest {
     }
 
     private static void limit() {
-        CrateHelpers x = pair();
+        CrateHelpers x = Samples.pair();
         CHECK.due("limit(-1)", x.limit(-1), BAD);
         CHECK.due("limit(1001)", x.limit(1001), BAD);
         CHECK.due("limit(1000)", x.limit(1000), 0);
@@ -138,7 +124,7 @@ public final class HelpersTest {
     }
 
     private static void whileUnderWay() {
-        CrateHelpers x = pair();
+        CrateHelpers x = Samples.pair();
         x.solve(0, 1);
         CHECK.due("helpers(2)", x.helpers(2), STATE);
         CHECK.due("helpers(6)", x.helpers(6), BAD);
@@ -154,16 +140,7 @@ public final class HelpersTest {
 
     /** One helper keeps the node that the walk waits for, another goes ahead until thirty are done. */
     private static void farAhead() {
-        CrateHelpers x = new CrateHelpers();
-        x.problem();
-        for (int v = 0; v < 6; v++) {
-            x.variable(0, 6, 3);
-            x.cost(0, v, 5, v);
-        }
-        x.rule(0, 3, 15);
-        for (int v = 0; v < 6; v++) {
-            x.part(0, 0, v, 2);
-        }
+        CrateHelpers x = Samples.odd();
         x.helpers(2);
         for (int i = 0; i < 103; i++) {
             x.turn(i < 3 ? 0 : 1);

@@ -14,7 +14,7 @@ public final class QuestionsTest {
     }
 
     private static void askAndWith() {
-        CrateHelpers x = HelpersTest.pair();
+        CrateHelpers x = Samples.pair();
         CHECK.due("with() before ask()", x.with(0), BAD);
         CHECK.due("ask(1)", x.ask(1), BAD);
         CHECK.due("ask(-1)", x.ask(-1), BAD);
@@ -34,7 +34,7 @@ public final class QuestionsTest {
     }
 
     private static void node() {
-        CrateHelpers x = HelpersTest.pair();
+        CrateHelpers x = Samples.pair();
         x.ask(0);
         CHECK.due("that of none", x.node(2, 99, 99), 0);
         CHECK.due("its bound", x.node(3, -5, -5), 0);
@@ -75,7 +75,7 @@ public final class QuestionsTest {
     }
 
     private static void nodeRefused() {
-        CrateHelpers x = HelpersTest.pair();
+        CrateHelpers x = Samples.pair();
         CHECK.due("before ask()", x.node(2, 0, 0), STATE);
         CHECK.due("before ask(), bad", x.node(5, 0, 0), BAD);
         CHECK.due("before ask(), bad", x.node(-1, 0, 0), BAD);
@@ -112,7 +112,7 @@ public final class QuestionsTest {
     }
 
     private static void secondAndRow() {
-        CrateHelpers x = HelpersTest.pair();
+        CrateHelpers x = Samples.pair();
         CHECK.due("row() before", x.row(0), NONE);
         CHECK.due("second(0, 0)", x.second(0, 0), 1);
         row(x, 1, 0);
@@ -183,7 +183,7 @@ public final class QuestionsTest {
     }
 
     private static void same() {
-        CrateHelpers x = HelpersTest.pair();
+        CrateHelpers x = Samples.pair();
         CHECK.due("same(1, 1)", x.same(1, 1), BAD);
         CHECK.due("same(-1, 1)", x.same(-1, 1), BAD);
         CHECK.due("same(0, 0)", x.same(0, 0), BAD);

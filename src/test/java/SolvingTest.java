@@ -22,7 +22,7 @@ public final class SolvingTest {
     }
 
     private static void found() {
-        CrateHelpers x = HelpersTest.pair();
+        CrateHelpers x = Samples.pair();
         CHECK.due("told before", x.told(0, 0), NONE);
         CHECK.due("answer before", x.answer(0, 0), NONE);
         CHECK.due("solve(0, 5)", x.solve(0, 5), STOPPED);
@@ -58,7 +58,7 @@ public final class SolvingTest {
     }
 
     private static void refused() {
-        CrateHelpers x = HelpersTest.pair();
+        CrateHelpers x = Samples.pair();
         CHECK.due("solve(1, 1)", x.solve(1, 1), BAD);
         CHECK.due("solve(-1, 1)", x.solve(-1, 1), BAD);
         CHECK.due("solve(0, 0)", x.solve(0, 0), BAD);
@@ -76,13 +76,7 @@ public final class SolvingTest {
     }
 
     private static void nothing() {
-        CrateHelpers x = new CrateHelpers();
-        x.problem();
-        x.variable(0, 1, 0);
-        x.variable(0, 1, 0);
-        x.rule(0, 4, 0);
-        x.part(0, 0, 0, 1);
-        x.part(0, 0, 1, 1);
+        CrateHelpers x = Samples.cramped();
         CHECK.due("solve(0, 1)", x.solve(0, 1), STOPPED);
         CHECK.due("solve(0, 1)", x.solve(0, 1), NOTHING);
         int[] told = {NOTHING, 1, 1, 2, NO_COST, NO_COST};
@@ -104,23 +98,8 @@ public final class SolvingTest {
         CHECK.due("done under number 0", x.helper(0, 0), 0);
     }
 
-    /** No sum of even numbers is 15: every row but a full one is open for long. */
-    private static CrateHelpers odd() {
-        CrateHelpers x = new CrateHelpers();
-        x.problem();
-        for (int v = 0; v < 6; v++) {
-            x.variable(0, 6, 3);
-            x.cost(0, v, 5, v);
-        }
-        x.rule(0, 3, 15);
-        for (int v = 0; v < 6; v++) {
-            x.part(0, 0, v, 2);
-        }
-        return x;
-    }
-
     private static void large() {
-        CrateHelpers x = odd();
+        CrateHelpers x = Samples.odd();
         CHECK.due("solve(0, 499)", x.solve(0, 499), STOPPED);
         CHECK.due("taken", x.count(7), 249);
         CHECK.due("solve(0, 1)", x.solve(0, 1), CrateHelpers.LARGE);
@@ -146,7 +125,7 @@ public final class SolvingTest {
     }
 
     private static void limited() {
-        CrateHelpers x = HelpersTest.pair();
+        CrateHelpers x = Samples.pair();
         x.limit(1);
         CHECK.due("solve", x.solve(0, 500), CrateHelpers.LIMITED);
         CHECK.due("taken", x.told(0, 1), 1);
@@ -164,20 +143,14 @@ public final class SolvingTest {
         CHECK.due("least open below what was taken", x.told(0, 5), 1);
         CHECK.due("closed of the second one taken", x.closed(1, 1, 0), 1);
         // The walk ends as the limit is met, before it looks whether another is left.
-        CrateHelpers y = new CrateHelpers();
-        y.problem();
-        y.variable(0, 1, 0);
-        y.variable(0, 1, 0);
-        y.rule(0, 4, 0);
-        y.part(0, 0, 0, 1);
-        y.part(0, 0, 1, 1);
+        CrateHelpers y = Samples.cramped();
         y.limit(1);
         CHECK.due("limit met, none left", y.solve(0, 500), CrateHelpers.LIMITED);
         CHECK.due("least open", y.told(0, 5), NO_COST);
     }
 
     private static void giveUp() {
-        CrateHelpers x = HelpersTest.pair();
+        CrateHelpers x = Samples.pair();
         CHECK.due("giveUp()", x.giveUp(), STATE);
         x.solve(0, 500);
         x.problem();
@@ -205,7 +178,7 @@ public final class SolvingTest {
 
     private static void toldUntilChanged() {
         for (int change = 0; change < 5; change++) {
-            CrateHelpers x = HelpersTest.pair();
+            CrateHelpers x = Samples.pair();
             x.problem();
             x.solve(0, 500);
             x.solve(1, 500);
@@ -220,7 +193,7 @@ public final class SolvingTest {
             CHECK.due("answer behind change " + change, x.answer(0, 0), NONE);
             CHECK.due("told of the other problem", x.told(1, 0), FOUND);
         }
-        CrateHelpers x = HelpersTest.pair();
+        CrateHelpers x = Samples.pair();
         x.solve(0, 500);
         x.cost(0, 0, 0, 100001);
         x.variable(0, 0, 0);
@@ -231,7 +204,7 @@ public final class SolvingTest {
     }
 
     private static void walkedOfAnyProblem() {
-        CrateHelpers x = HelpersTest.pair();
+        CrateHelpers x = Samples.pair();
         x.solve(0, 500);
         x.variable(0, 4, 0);
         x.cost(0, 0, 1, 77);
@@ -251,8 +224,8 @@ public final class SolvingTest {
         CHECK.due("open below that of none", x.walked(0, 9), 3);
     }
 
-    /** Four variables of two values; what makes two of them twins is changed one by one. */
-    private static CrateHelpers four(int weightOf1, int kind, int costOf1, int sizeOf1) {
+    /** Three variables of which 0 and 1 are twins, but for what the numbers change. */
+    private static CrateHelpers maybeTwins(int weightOf1, int kind, int costOf1, int sizeOf1) {
         CrateHelpers x = new CrateHelpers();
         x.problem();
         for (int v = 0; v < 3; v++) {
@@ -276,12 +249,12 @@ public final class SolvingTest {
     }
 
     private static void twins() {
-        CHECK.due("twins", kindOfOneZero(four(2, 1, 1, 3)), 2);
-        CHECK.due("other weight", kindOfOneZero(four(3, 1, 1, 3)), 0);
-        CHECK.due("no part", kindOfOneZero(four(99, 1, 1, 3)), 0);
-        CHECK.due("rising", kindOfOneZero(four(2, 6, 1, 3)), 0);
-        CHECK.due("other cost", kindOfOneZero(four(2, 1, 2, 3)), 0);
-        CHECK.due("other size", kindOfOneZero(four(2, 1, 1, 2)), 0);
+        CHECK.due("twins", kindOfOneZero(maybeTwins(2, 1, 1, 3)), 2);
+        CHECK.due("other weight", kindOfOneZero(maybeTwins(3, 1, 1, 3)), 0);
+        CHECK.due("no part", kindOfOneZero(maybeTwins(99, 1, 1, 3)), 0);
+        CHECK.due("rising", kindOfOneZero(maybeTwins(2, 6, 1, 3)), 0);
+        CHECK.due("other cost", kindOfOneZero(maybeTwins(2, 1, 2, 3)), 0);
+        CHECK.due("other size", kindOfOneZero(maybeTwins(2, 1, 1, 2)), 0);
         CrateHelpers x = new CrateHelpers();
         x.problem();
         for (int v = 0; v < 4; v++) {
@@ -316,7 +289,7 @@ public final class SolvingTest {
     }
 
     private static void helpersTold() {
-        CrateHelpers x = HelpersTest.pair();
+        CrateHelpers x = Samples.pair();
         CHECK.due("helper(4, 0)", x.helper(4, 0), 0);
         CHECK.due("helper(5, 0)", x.helper(5, 0), BAD);
         CHECK.due("helper(-1, 0)", x.helper(-1, 0), BAD);

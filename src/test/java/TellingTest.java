@@ -18,7 +18,7 @@ public final class TellingTest {
     }
 
     private static void count() {
-        CrateHelpers x = HelpersTest.pair();
+        CrateHelpers x = Samples.pair();
         x.problem();
         x.limit(7);
         x.helpers(4);
@@ -41,7 +41,7 @@ public final class TellingTest {
     }
 
     private static void about() {
-        CrateHelpers x = HelpersTest.pair();
+        CrateHelpers x = Samples.pair();
         x.rule(0, 7, -3);
         x.variable(0, 5, 2);
         int[][] asked = {{0, 99, 3}, {1, -1, 2}, {2, 0, 4}, {3, 0, 0}, {4, 0, 2}, {2, 1, 7}, {3, 1, -3}, {4, 1, 0}, {5, 0, 2}, {5, 2, 5}, {6, 0, 3}, {6, 2, 2}};
@@ -61,7 +61,7 @@ public final class TellingTest {
     }
 
     private static void costsAndStatus() {
-        CrateHelpers x = HelpersTest.pair();
+        CrateHelpers x = Samples.pair();
         CHECK.due("costs", x.costs(0, 1, 1), 5);
         int[][] wrong = {{1, 0, 0}, {-1, 0, 0}, {0, 2, 0}, {0, -1, 0}, {0, 0, 2}, {0, 0, -1}};
         for (int[] w : wrong) {

@@ -45,16 +45,7 @@ public final class WildCallsTest {
         if (!(ManagementFactory.getThreadMXBean() instanceof com.sun.management.ThreadMXBean bean)) {
             return;
         }
-        CrateHelpers x = new CrateHelpers();
-        x.problem();
-        for (int v = 0; v < 6; v++) {
-            x.variable(0, 6, 3);
-            x.cost(0, v, 5, v);
-        }
-        x.rule(0, 3, 15);
-        for (int v = 0; v < 6; v++) {
-            x.part(0, 0, v, 2);
-        }
+        CrateHelpers x = Samples.odd();
         long before = bean.getThreadAllocatedBytes(Thread.currentThread().getId());
         for (int i = 0; i < 100; i++) {
             x.solve(0, 500);
