@@ -164,6 +164,9 @@ public final class HelperEdgesTest {
         r.due("helper(0, 0)", 1);
         r.due("helper(1, 0)", 0);
         r.dueOfEach("count(#)", 5, 3, 1, 1);
+        r.due("solve(0, 500)", FOUND);
+        r.due("walked(0, 8)", 0);
+        r.due("helper(1, 2)", 1);
     }
 
     // ---- promise 10

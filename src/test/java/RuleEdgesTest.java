@@ -9,6 +9,7 @@ public final class RuleEdgesTest {
         loadedAtTheFirstAndLastValue();
         loadedAtValuesThatNoVariableHas();
         loadedByAllSix();
+        loadedAtNoValueBeyondTheLast();
         loadedByWhatIsBelowZero();
         atMostWithoutParts();
         atMostWithTheLeastThatCanBe();
@@ -117,6 +118,15 @@ public final class RuleEdgesTest {
         broken(r, 299, 2, 2, 2, 2, 2, 2);
         fine(r, 50, 0, 1, 2, 3, 4, 5);
         broken(r, 49, 0, 1, 2, 3, 4, 5);
+    }
+
+    private static void loadedAtNoValueBeyondTheLast() {
+        Run r = rule(LOADED, 6, six(-1));
+        fine(r, -1, 0, 1, 2, 3, 4, 5);
+        broken(r, -2, 0, 1, 2, 3, 4, 5);
+        // None is set to 5 here.
+        fine(r, 0, 0, 0, 1, 2, 3, 4);
+        broken(r, -1, 0, 0, 1, 2, 3, 4);
     }
 
     private static void loadedByWhatIsBelowZero() {

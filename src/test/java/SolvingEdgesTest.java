@@ -28,7 +28,9 @@ public final class SolvingEdgesTest {
         notFoundBehindTwoHundredAndFifty();
         limitsAroundTwoHundredAndFifty();
         equalBounds();
+        boundByWhatIsNotOut();
         twinByOne();
+        twinsInAllButOneThing();
         leastTwin();
         leastRule();
         leastWithoutAWay();
@@ -46,6 +48,7 @@ public final class SolvingEdgesTest {
         closedWhat();
         closedNone();
         closedOfEachValue();
+        closedBelowTheLastTaken();
         helperNumbers();
         helperWhat();
         CHECK.end();
@@ -273,6 +276,22 @@ public final class SolvingEdgesTest {
         r.due("told(0, 5)", -1);
     }
 
+    private static void boundByWhatIsNotOut() {
+        Run r = run("the least cost of a value that is not out", "problem(); variable(0, 2, 3); variable(0, 3, 3); rule(0, 1, 2)");
+        r.make("part(0, 0, 0, 2); part(0, 0, 1, 1); cost(0, 0, 0, 20); cost(0, 1, 0, 7); cost(0, 1, 1, 5); cost(0, 1, 2, -3); ask(0)");
+        r.due("node(3, 0, 0)", -3);
+        r.make("with(1)");
+        // 2 + 0 alone is not above 2: of the values of the other one the dearest is left.
+        r.due("node(3, 0, 0)", 7);
+        r.make("number(0, 0, 3); ask(0); with(1)");
+        r.due("node(3, 0, 0)", 5);
+        r.make("number(0, 0, 4); ask(0); with(1)");
+        r.due("node(3, 0, 0)", -3);
+        r.make("number(0, 0, 1); ask(0)");
+        // The value 1 of the first one is out by itself.
+        r.due("node(3, 0, 0)", 25);
+    }
+
     private static void twinByOne() {
         Run r = run("the value of a is above that of e", "problem(); variable(0, 6, 0); variable(0, 6, 3); ask(0); with(5); with(5)");
         r.due("node(2, 0, 0)", 0);
@@ -286,6 +305,31 @@ public final class SolvingEdgesTest {
         // Behind a change of one cost they are none.
         r.make("cost(0, 0, 5, 1); ask(0); with(5); with(4)");
         r.due("node(2, 0, 0)", 0);
+    }
+
+    /** Whether [1, 0] is a twin in a problem of two variables that first are twins, by rules 0 to 7. */
+    private static void twin(String name, String changes, int want) {
+        Run r = run(name, "problem(); variable(0, 3, 3); variable(0, 3, 0)").times(8, "rule(0, 1, 50)");
+        r.make("part(0, 0, 0, 2); part(0, 7, 1, 2)").make(changes).make("ask(0); with(1); with(0)");
+        r.due("node(2, 0, 0)", want);
+    }
+
+    private static void twinsInAllButOneThing() {
+        String alike = "part(0, 0, 1, 2); part(0, 7, 0, 2)";
+        twin("twins", alike, 2);
+        twin("first cost", alike + "; cost(0, 0, 0, 1)", 0);
+        twin("last cost", alike + "; cost(0, 1, 2, 1)", 0);
+        twin("costs alike as they are cast", alike + "; cost(0, 0, 2, -1); cost(0, 1, 2, 255)", 2);
+        twin("weight in the first rule", "part(0, 0, 1, 3); part(0, 7, 0, 2)", 0);
+        twin("weight in the last rule", "part(0, 0, 1, 2); part(0, 7, 0, 1)", 0);
+        twin("part of the first rule alone", "part(0, 7, 0, 2)", 0);
+        twin("part of the last rule alone", "part(0, 0, 1, 2)", 0);
+        Run sizes = run("as many values", "problem(); variable(0, 2, 3); variable(0, 3, 3); ask(0); with(1); with(0)");
+        sizes.due("node(2, 0, 0)", 0);
+        Run rising = run("a rising rule: neither", "problem(); variable(0, 2, 3); variable(0, 2, 3); rule(0, 6, -9); ask(0); with(1); with(0)");
+        rising.due("node(2, 0, 0)", 2);
+        rising.make("part(0, 0, 0, 1); part(0, 0, 1, 1); ask(0); with(1); with(0)");
+        rising.due("node(2, 0, 0)", 0);
     }
 
     private static void leastTwin() {
@@ -479,6 +523,15 @@ public final class SolvingEdgesTest {
         // [0]: 5 is above 4; twins are none, for no value is below 0.
         r.dueOfEach("closed(1, #, 0)", 0, 0, 0, 0, 0, 0, 1);
         r.due("walked(1, 9)", 5);
+    }
+
+    private static void closedBelowTheLastTaken() {
+        Run r = pair("closed() below the last one taken").make("limit(2); solve(0, 500)");
+        r.due("closed(1, 0, 0)", 0);
+        r.due("closed(1, 1, 0)", 1);
+        r.due("closed(1, 1, 1)", 0);
+        r.due("walked(1, 9)", 1);
+        r.leaves("closed(2, 0, 0)", NONE);
     }
 
     // ---- promise 19
