@@ -61,6 +61,7 @@ public final class Model {
         int problem, turns = 0, taken = 0;
         Walk walk;
         Set<List<Integer>> known = new HashSet<>();
+        Map<List<Integer>, Verdict> verdicts = new HashMap<>();
         Map<List<Integer>, Integer> done = new LinkedHashMap<>();
         Map<Integer, List<Integer>> has = new HashMap<>();
         int[] had = new int[5];
@@ -434,7 +435,7 @@ public final class Model {
         Map<List<Integer>, Integer> bounds = new HashMap<>();
         for (List<Integer> row : way.known) {
             if (way.done.containsKey(row) || way.has.containsValue(row)) continue;
-            Verdict v = verdict(p, row, true);
+            Verdict v = way.verdicts.computeIfAbsent(row, r -> verdict(p, r, true));
             if (v.what == 0) bounds.put(row, v.bound);
         }
         if (bounds.isEmpty() || way.done.size() - way.taken >= 30) {

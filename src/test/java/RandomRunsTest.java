@@ -1,4 +1,5 @@
 import java.lang.reflect.Method;
+import java.lang.reflect.Modifier;
 import java.util.ArrayList;
 import java.util.Arrays;
 import java.util.Comparator;
@@ -13,11 +14,11 @@ public final class RandomRunsTest {
     private static final Map<String, Integer> COMMON = new TreeMap<>(Map.of(
         "cost", 8, "part", 9, "solve", 5, "node", 6, "with", 4, "closed", 4, "walked", 4, "told", 4, "variable", 3, "helper", 2));
 
-    public static void main(String[] args) throws Exception {
+    public static void main(String[] args) {
         Check check = new Check("RandomRunsTest");
         List<Method> calls = callsByWeight();
         for (int seed = 0; seed < RUNS; seed++) {
-            run(seed, calls, check);
+            run(new Random(seed), seed % 4 != 0, calls, new Beside(check, "seed " + seed));
         }
         check.end();
     }
@@ -28,59 +29,55 @@ public final class RandomRunsTest {
         List<Method> calls = new ArrayList<>();
         for (Method m : all) {
             int weight = COMMON.getOrDefault(m.getName(), 1);
-            for (int i = 0; i < weight && java.lang.reflect.Modifier.isPublic(m.getModifiers()); i++) {
+            for (int i = 0; i < weight && Modifier.isPublic(m.getModifiers()); i++) {
                 calls.add(m);
             }
         }
         return calls;
     }
 
-    private static void run(int seed, List<Method> calls, Check check) throws Exception {
-        Random random = new Random(seed);
-        CrateHelpers real = new CrateHelpers();
-        Model model = new Model();
-        // Some runs are given problems with room to search in, others are left to what the calls bring.
-        int made = seed % 4 == 0 ? 0 : build(random, real, model, check, seed);
-        for (int n = made; n < 512; n++) {
+    /** Some runs are given problems with room to search in, others are left to what the calls bring. */
+    private static void run(Random random, boolean isBuilt, List<Method> calls, Beside x) {
+        if (isBuilt) {
+            build(random, x);
+        }
+        while (!x.isUsedUp()) {
             Method m = calls.get(random.nextInt(calls.size()));
-            both(m.getName(), arguments(m, random), real, model, check, seed);
+            x.call(m.getName(), arguments(m, random));
         }
     }
 
-    private static int build(Random random, CrateHelpers real, Model model, Check check, int seed) throws Exception {
-        int made = 0;
+    private static void build(Random random, Beside x) {
         int problems = 1 + random.nextInt(2);
         for (int p = 0; p < problems; p++) {
-            made += both("problem", new Object[0], real, model, check, seed);
+            x.call("problem");
             int variables = 2 + random.nextInt(5);
             int size = 2 + random.nextInt(4);
             int spread = random.nextInt(4) == 0 ? 1 : 1 + random.nextInt(12);
             for (int v = 0; v < variables; v++) {
                 int n = random.nextInt(3) == 0 ? 1 + random.nextInt(6) : size;
-                made += both("variable", new Object[] {p, n, random.nextInt(4)}, real, model, check, seed);
-                for (int x = 0; x < n; x++) {
-                    int price = random.nextInt(spread) - random.nextInt(2);
-                    made += both("cost", new Object[] {p, v, x, price}, real, model, check, seed);
+                x.call("variable", p, n, random.nextInt(4));
+                for (int value = 0; value < n; value++) {
+                    x.call("cost", p, v, value, random.nextInt(spread) - random.nextInt(2));
                 }
             }
             int rules = random.nextInt(4);
             for (int r = 0; r < rules; r++) {
-                made += both("rule", new Object[] {p, random.nextInt(8), random.nextInt(14) - 3}, real, model, check, seed);
+                x.call("rule", p, random.nextInt(8), random.nextInt(14) - 3);
                 int weight = random.nextInt(6);
                 for (int v = 0; v < variables; v++) {
                     int own = random.nextInt(3) == 0 ? random.nextInt(9) - 3 : weight;
                     if (random.nextInt(4) != 0) {
-                        made += both("part", new Object[] {p, r, v, own}, real, model, check, seed);
+                        x.call("part", p, r, v, own);
                     }
                 }
             }
         }
-        made += both("helpers", new Object[] {1 + random.nextInt(5)}, real, model, check, seed);
-        return made;
+        x.call("helpers", 1 + random.nextInt(5));
     }
 
-    private static Object[] arguments(Method m, Random random) {
-        Object[] numbers = new Object[m.getParameterCount()];
+    private static int[] arguments(Method m, Random random) {
+        int[] numbers = new int[m.getParameterCount()];
         for (int i = 0; i < numbers.length; i++) {
             numbers[i] = random.nextInt(40) == 0 ? wild(random) : random.nextInt(i == 0 ? 2 : 5);
         }
@@ -104,14 +101,5 @@ public final class RandomRunsTest {
     private static int wild(Random random) {
         int[] some = {-1, 6, 7, 8, 50, 51, -50, -51, 200, 201, 1000, 1001, Integer.MAX_VALUE, Integer.MIN_VALUE};
         return some[random.nextInt(some.length)];
-    }
-
-    private static int both(String name, Object[] numbers, CrateHelpers real, Model model, Check check, int seed) throws Exception {
-        Class<?>[] types = new Class<?>[numbers.length];
-        Arrays.fill(types, int.class);
-        int got = (Integer) CrateHelpers.class.getMethod(name, types).invoke(real, numbers);
-        int want = (Integer) Model.class.getMethod(name, types).invoke(model, numbers);
-        check.due("seed " + seed + ": " + name + Arrays.toString(numbers), got, want);
-        return 1;
     }
 }
