@@ -44,7 +44,17 @@ public final class ReadmeTest {
         CHECK.holds("each program says what it prints", program == null);
         CHECK.holds("there is a program", programs > 0);
         answers(callByCall.toString().split("\n"));
+        namesEachTest();
         CHECK.end();
+    }
+
+    private static void namesEachTest() throws Exception {
+        String readme = Files.readString(Path.of("README.md"));
+        CHECK.holds("README.md says how the tests are run", readme.contains(".ci/run"));
+        for (File file : new File("src/test/java").listFiles()) {
+            String name = file.getName().replace(".java", "");
+            CHECK.holds("README.md names " + name, !name.endsWith("Test") || readme.contains("`" + name + "`"));
+        }
     }
 
     private static void prints(String program, String want) throws Exception {

@@ -44,6 +44,10 @@ final class Run {
         return answer(x, call);
     }
 
+    int calls() {
+        return calls.size();
+    }
+
     void due(String call, int want) {
         check.due(name + ": " + call, answer(call), want);
     }
